@@ -29,14 +29,21 @@ final class Desk {
         }
     }
 
-    /** The name of what the call throws; what a child class or the machine throws is not what is due. */
+    /** The name of what the call throws. */
     static String thrown(Call call) {
         try {
             call.run();
             return NOTHING;
         } catch (RuntimeException e) {
-            return e.getClass().getName();
+            return nameOf(e);
         }
+    }
+
+    /** What the class throws itself has its plain name; what a list or the machine throws in it is never due. */
+    static String nameOf(RuntimeException e) {
+        StackTraceElement[] way = e.getStackTrace();
+        boolean own = way.length > 0 && way[0].getClassName().startsWith("ComplaintDesk");
+        return own ? e.getClass().getName() : "not thrown by the class itself: " + e;
     }
 
     static void dueThrow(String call, Call made, String want) {

@@ -477,7 +477,15 @@ public final class ModelTest {
         int ask();
     }
 
-    private static String told(Asked asked) {
+    private static String toldByClass(Asked asked) {
+        try {
+            return "" + asked.ask();
+        } catch (RuntimeException e) {
+            return Desk.nameOf(e);
+        }
+    }
+
+    private static String toldByModel(Asked asked) {
         try {
             return "" + asked.ask();
         } catch (RuntimeException e) {
@@ -500,7 +508,7 @@ public final class ModelTest {
 
     private void both(String call, Asked real, Asked slow) {
         calls++;
-        Desk.due("run " + run + ", call " + calls + ": " + call, told(real), told(slow));
+        Desk.due("run " + run + ", call " + calls + ": " + call, toldByClass(real), toldByModel(slow));
     }
 
     private boolean rarely() {

@@ -804,6 +804,15 @@ public final class PromisesTest {
         Desk.due("17: an open one is sorted to the day of its coming", y.wave(0), 120);
         Desk.due("17: those of today are sorted anew", y.counts(0, 199), 0);
 
+        ComplaintDesk w = new ComplaintDesk();
+        Desk.cause(w, "a");
+        Desk.letter(w, 0, "a. a");
+        w.days(19);
+        Desk.letter(w, 0, "a. a");
+        Desk.due("17: day 0 is a day ahead too", w.wave(0), NONE);
+        Desk.letter(w, 0, "a");
+        Desk.due("17: three are more than two", w.wave(0), 19);
+
         ComplaintDesk z = new ComplaintDesk();
         Desk.cause(z, "a");
         z.days(19);
