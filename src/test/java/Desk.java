@@ -94,7 +94,28 @@ final class Desk {
         return desk.pattern(cause);
     }
 
-    /** All that the desk tells without being changed, but for fault(). */
+    /** A letter of the one word a in two calls, for runs that have few calls left. */
+    static int shortLetter(ComplaintDesk desk, int writer) {
+        desk.feed(0x61202020, 0x20202020, 0x20202020, 0x20202020, 0x20202020);
+        return desk.letter(writer);
+    }
+
+    /** end() of all that there is changes nothing, and of one byte more it tells that there are not so many. */
+    static void dueTape(String call, ComplaintDesk desk, int bytes) {
+        due(call + ": one byte more on the tape", desk.end(bytes + 1), false);
+        due(call + ": so many bytes on the tape", desk.end(bytes), true);
+    }
+
+    /** A call that is refused: what it throws, and that all is as it was but for the tape and fault(). */
+    static void refused(String call, ComplaintDesk desk, Call made, String want, int tapeThen, int faultThen) {
+        String before = state(desk);
+        dueThrow(call, made, want);
+        due(call + ": fault() then", desk.fault(), faultThen);
+        dueTape(call, desk, tapeThen);
+        due(call + ": all stays", state(desk), before);
+    }
+
+    /** All that the desk tells without being changed, but for fault(); of many letters the first and the last two. */
     static String state(ComplaintDesk desk) {
         StringBuilder all = new StringBuilder();
         for (int what = 0; what <= 8; what++) {
@@ -103,18 +124,29 @@ final class Desk {
         for (int at = 0; at < 4; at++) {
             all.append('d').append(desk.waits(at)).append(' ').append(desk.late(at)).append(' ');
         }
-        for (int cause = 0; cause < desk.count(1); cause++) {
-            all.append('c').append(desk.wave(cause)).append(' ').append(desk.counts(cause, desk.count(0))).append(' ');
+        int today = desk.count(0);
+        int causes = desk.count(1);
+        for (int cause = 0; cause < causes; cause++) {
+            all.append('c').append(desk.wave(cause)).append(' ').append(desk.counts(cause, today)).append(' ');
         }
-        for (int letter = 0; letter < desk.count(2); letter++) {
-            all.append('l');
-            for (int what = 0; what <= 4; what++) {
-                all.append(desk.look(letter, what)).append(' ');
+        int letters = desk.count(2);
+        for (int letter = 0; letter < letters; letter++) {
+            if (letter < 2 || letter >= letters - 2) {
+                all.append(stateOfLetter(desk, letter));
             }
-            for (int point = 0; point < desk.look(letter, 2); point++) {
-                for (int what = 0; what <= 4; what++) {
-                    all.append(desk.point(letter, point, what)).append(' ');
-                }
+        }
+        return all.toString();
+    }
+
+    private static String stateOfLetter(ComplaintDesk desk, int letter) {
+        StringBuilder all = new StringBuilder("l");
+        for (int what = 0; what <= 4; what++) {
+            all.append(desk.look(letter, what)).append(' ');
+        }
+        int points = desk.look(letter, 2);
+        for (int point = 0; point < points; point++) {
+            for (int what = 0; what <= 4; what++) {
+                all.append(desk.point(letter, point, what)).append(' ');
             }
         }
         return all.toString();

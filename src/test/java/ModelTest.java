@@ -10,7 +10,9 @@ import java.util.Set;
 /** Many random runs of calls, each answered by the class and by a second, slow program written apart from it. */
 public final class ModelTest {
     private static final int NONE = -1;
-    private static final int RUNS = 3000;
+    private static final int RUNS = 4000;
+    /** What an object answers behind so many calls is free. */
+    private static final int MOST_CALLS = 512;
     private static final String[] VOCABULARY = {"a", "b", "c", "late", "tram", "and", "or", "not",
         "abcdefghijkl", "abcdefghijklm", "x"};
 
@@ -507,6 +509,9 @@ public final class ModelTest {
     }
 
     private void both(String call, Asked real, Asked slow) {
+        if (calls == MOST_CALLS) {
+            return;
+        }
         calls++;
         Desk.due("run " + run + ", call " + calls + ": " + call, toldByClass(real), toldByModel(slow));
     }
@@ -682,8 +687,10 @@ public final class ModelTest {
         }
     }
 
+    /** Short runs have calls left to ask for all, long ones come further. */
     private void runAll() {
-        while (calls < 480) {
+        int changing = run % 2 == 0 ? MOST_CALLS / 2 : MOST_CALLS;
+        while (calls < changing) {
             change();
             askOne();
         }
